@@ -588,19 +588,18 @@ public final class ParrotLog {
         }
 
         private int countKey(int key) {
-            int count = 0;
-            for (int i = 0; i < size; i++) {
-                if (keys[i] == key) {
-                    count++;
-                }
-            }
-            return count;
+            return countEqual(keys, key);
         }
 
         private int countStorm(int storm) {
+            return countEqual(stormNumbers, storm);
+        }
+
+        /** How many phrases have this number in one of the rows. */
+        private int countEqual(int[] row, int number) {
             int count = 0;
             for (int i = 0; i < size; i++) {
-                if (stormNumbers[i] == storm) {
+                if (row[i] == number) {
                     count++;
                 }
             }

@@ -1,3 +1,4 @@
+import java.util.function.IntToLongFunction;
 import java.util.function.LongSupplier;
 
 /** Compares answers with those that are due, counts the wrong ones and ends a test. */
@@ -44,6 +45,14 @@ final class Check {
             tell(what + " threw " + got + ", due is " + want);
         }
         due(what + " refused, and all answers behind it", Answers.of(log), before);
+    }
+
+    /** The question refuses each of these numbers of keys, storms or ships. */
+    static void refusedNumbers(ParrotLog log, String name, IntToLongFunction question, int[] wrong) {
+        for (int number : wrong) {
+            refused(log, name + "(" + number + ")", IndexOutOfBoundsException.class,
+                    () -> question.applyAsLong(number));
+        }
     }
 
     /** The call answers this, and the log answers all questions as before. */

@@ -1,5 +1,6 @@
 import java.lang.reflect.InvocationTargetException;
 import java.lang.reflect.Method;
+import java.util.Arrays;
 import java.util.List;
 
 /** Plays the same long runs of calls on ParrotLog and on ModelLog: all answers and exceptions are the same. */
@@ -35,9 +36,16 @@ public final class ModelTest {
         // The first questions of a run come at once, so that the empty log is asked too.
         askAll();
         for (int act = 0; act < ACTS; act++) {
-            act(ACT_NAMES.get(pick(0, ACT_NAMES.size() - 1)));
+            act(nextAct());
             askAll();
         }
+    }
+
+    private String nextAct() {
+        String name = ACT_NAMES.get(pick(0, ACT_NAMES.size() - 1));
+        boolean empties = name.equals("compact") || name.equals("trimTo");
+        // In two runs of three the log must become full: there it is emptied but seldom.
+        return empties && run % 3 != 0 && pick(0, 19) != 0 ? "say" : name;
     }
 
     private void act(String name) throws ReflectiveOperationException {
@@ -104,7 +112,7 @@ public final class ModelTest {
 
     private void call(String name, Integer... values) throws ReflectiveOperationException {
         Class<?>[] types = new Class<?>[values.length];
-        java.util.Arrays.fill(types, int.class);
+        Arrays.fill(types, int.class);
         String got = answer(log, ParrotLog.class.getMethod(name, types), values);
         String want = answer(model, ModelLog.class.getMethod(name, types), values);
         if (!got.equals(want)) {
