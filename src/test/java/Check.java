@@ -1,5 +1,4 @@
-import java.util.function.IntToLongFunction;
-import java.util.function.LongSupplier;
+import java.util.function.ToLongFunction;
 
 /** Compares answers with those that are due, counts the wrong ones and ends a test. */
 final class Check {
@@ -32,34 +31,34 @@ final class Check {
         }
     }
 
-    /** The call throws exactly this exception, and the log answers all questions as before. */
-    static void refused(ParrotLog log, String what, Class<? extends RuntimeException> want, LongSupplier call) {
-        String before = Answers.of(log);
-        Class<?> got = null;
-        try {
-            call.getAsLong();
-        } catch (RuntimeException e) {
-            got = e.getClass();
-        }
+    /** The call throws exactly this exception, and all answers are those that would be without it. */
+    static void refused(Scene scene, String what, Class<? extends RuntimeException> want,
+            ToLongFunction<ParrotLog> call) {
+        String place = scene.name() + ": " + what;
+        Class<?> got = thrownBy(scene.make(), call);
         if (got != want) {
-            tell(what + " threw " + got + ", due is " + want);
+            tell(place + " threw " + got + ", due is " + want);
         }
-        due(what + " refused, and all answers behind it", Answers.of(log), before);
+        changesNothing(scene, place, call);
     }
 
-    /** The question refuses each of these numbers of keys, storms or ships. */
-    static void refusedNumbers(ParrotLog log, String name, IntToLongFunction question, int[] wrong) {
-        for (int number : wrong) {
-            refused(log, name + "(" + number + ")", IndexOutOfBoundsException.class,
-                    () -> question.applyAsLong(number));
-        }
+    /** All answers behind the call are those that would be without it. */
+    static void changesNothing(Scene scene, String what, ToLongFunction<ParrotLog> call) {
+        String behind = Answers.of(() -> {
+            ParrotLog log = scene.make();
+            thrownBy(log, call);
+            return log;
+        });
+        due("all answers behind " + what, behind, Answers.of(scene::make));
     }
 
-    /** The call answers this, and the log answers all questions as before. */
-    static void asked(ParrotLog log, String what, LongSupplier call, long want) {
-        String before = Answers.of(log);
-        due(what, call.getAsLong(), want);
-        due(what + " asked, and all answers behind it", Answers.of(log), before);
+    private static Class<?> thrownBy(ParrotLog log, ToLongFunction<ParrotLog> call) {
+        try {
+            call.applyAsLong(log);
+        } catch (RuntimeException e) {
+            return e.getClass();
+        }
+        return null;
     }
 
     static void end() {

@@ -33,4 +33,44 @@ final class Logs {
         log.addShip(5, 8);
         return log;
     }
+
+    /** The mixed one in storm 1, in which 8:(5, 5) and 9:(1, 0) are said. */
+    static ParrotLog stormy() {
+        ParrotLog log = mixed();
+        log.startStorm();
+        log.say(5, 5);
+        log.say(1, 0);
+        return log;
+    }
+
+    /**
+     * It keeps 48 phrases, 8 to 55, of 8 storms with 7 each; the last storm is on. The one with the offset i has the
+     * key i % 10 and the value i - 28. Of its 6 ships the first one was there from the beginning.
+     */
+    static ParrotLog fullInAStorm() {
+        ParrotLog log = new ParrotLog();
+        log.addShip(1, 0);
+        for (int storm = 0; storm < 8; storm++) {
+            log.startStorm();
+            for (int i = storm * 7; i < storm * 7 + 7; i++) {
+                log.say(i % 10, i - 28);
+            }
+            if (storm < 7) {
+                log.endStorm();
+            }
+        }
+        int[] offsets = {8, 20, 40, 55, 56};
+        for (int i = 0; i < offsets.length; i++) {
+            log.addShip(i + 1, offsets[i]);
+        }
+        return log;
+    }
+
+    /** The same as all storms are over and an hour went by. */
+    static ParrotLog full() {
+        ParrotLog log = fullInAStorm();
+        log.endStorm();
+        log.passHours(1);
+        return log;
+    }
 }

@@ -3,17 +3,18 @@ import java.lang.reflect.Method;
 import java.util.Arrays;
 import java.util.List;
 
-/** Plays the same long runs of calls on ParrotLog and on ModelLog: all answers and exceptions are the same. */
+/** Plays the same runs of 512 calls on ParrotLog and on ModelLog: all answers and exceptions are the same. */
 public final class ModelTest {
-    private static final int RUNS = 300;
-    private static final int ACTS = 120;
-    private static final List<String> ACT_NAMES = List.of("say", "say", "say", "say", "say", "say", "say", "say",
+    private static final int RUNS = 2000;
+    /** "An object is used for at most 512 calls": what later calls answer is free. */
+    private static final int CALLS = 512;
+    private static final List<String> ACTS = List.of("say", "say", "say", "say", "say", "say", "say", "say",
             "startStorm", "endStorm", "replay", "compact", "trimTo", "addShip", "seek", "passHours");
-    private static final List<String> SHIP_QUESTIONS = List.of("offsetOf", "lagOf", "heardBy", "missedBy", "errorsOf",
-            "hoursUntilCaughtUp", "wouldMiss");
-    private static final List<String> OFFSET_QUESTIONS = List.of("isKept", "keyAt", "valueAt", "stormAt");
-    private static final List<String> OTHER_QUESTIONS = List.of("hours", "phrases", "nextOffset", "firstOffset",
-            "dropped", "storms", "isStormy", "ships", "farthestBehind", "wouldCompact", "meanLag", "digest");
+    private static final List<String> QUESTIONS = List.of("hours", "phrases", "nextOffset", "firstOffset", "dropped",
+            "isKept", "keyAt", "valueAt", "stormAt", "latestOf", "valueOf", "countOf", "storms", "isStormy", "saidIn",
+            "keptOf", "ships", "offsetOf", "lagOf", "heardBy", "missedBy", "knownBy", "errorsOf", "farthestBehind",
+            "hoursUntilCaughtUp", "errorsIn", "errorsIn", "paceWanted", "paceWanted", "wouldCompact", "wouldMiss",
+            "meanLag", "digest", "digest", "digest");
 
     private final ParrotLog log = new ParrotLog();
     private final ModelLog model = new ModelLog();
@@ -33,52 +34,37 @@ public final class ModelTest {
     }
 
     private void play() throws ReflectiveOperationException {
-        // The first questions of a run come at once, so that the empty log is asked too.
-        askAll();
-        for (int act = 0; act < ACTS; act++) {
-            act(nextAct());
-            askAll();
+        // Runs of many questions tell when an answer goes wrong; runs of many acts go farther.
+        int actsInTen = 2 + run % 8;
+        for (int i = 1; i < CALLS; i++) {
+            call(pick(0, 9) < actsInTen ? nextAct() : QUESTIONS.get(pick(0, QUESTIONS.size() - 1)));
         }
+        call("digest");
     }
 
     private String nextAct() {
-        String name = ACT_NAMES.get(pick(0, ACT_NAMES.size() - 1));
+        String name = ACTS.get(pick(0, ACTS.size() - 1));
         boolean empties = name.equals("compact") || name.equals("trimTo");
         // In two runs of three the log must become full: there it is emptied but seldom.
         return empties && run % 3 != 0 && pick(0, 19) != 0 ? "say" : name;
     }
 
-    private void act(String name) throws ReflectiveOperationException {
+    private void call(String name) throws ReflectiveOperationException {
         switch (name) {
-            case "say" -> call(name, near(0, 9), pick(0, 2) == 0 ? 0 : near(-999, 999));
-            case "replay" -> call(name, near(0, model.storms() - 1));
-            case "trimTo" -> call(name, near(model.nextOffset() - 60, model.nextOffset()));
-            case "addShip" -> call(name, near(1, 5), anyOffset());
-            case "seek" -> call(name, anyShip(), anyOffset());
-            case "passHours" -> call(name, pick(0, 3) == 0 ? near(1, 60) : pick(1, 2));
-            default -> call(name);
+            case "say" -> compare(name, near(0, 9), pick(0, 2) == 0 ? 0 : near(-999, 999));
+            case "trimTo" -> compare(name, near(model.nextOffset() - 60, model.nextOffset()));
+            case "addShip" -> compare(name, near(1, 5), anyOffset());
+            case "seek" -> compare(name, anyShip(), anyOffset());
+            case "passHours" -> compare(name, pick(0, 3) == 0 ? near(1, 60) : pick(1, 2));
+            case "isKept", "keyAt", "valueAt", "stormAt" -> compare(name, anyOffset());
+            case "latestOf", "valueOf", "countOf" -> compare(name, near(0, 9));
+            case "replay", "saidIn", "keptOf" -> compare(name, near(0, model.storms() - 1));
+            case "offsetOf", "lagOf", "heardBy", "missedBy", "errorsOf", "hoursUntilCaughtUp", "wouldMiss" ->
+                    compare(name, anyShip());
+            case "knownBy" -> compare(name, anyShip(), near(0, 9));
+            case "errorsIn", "paceWanted" -> compare(name, anyShip(), pick(0, 1) == 0 ? near(1, 60) : pick(1, 15));
+            default -> compare(name);
         }
-    }
-
-    private void askAll() throws ReflectiveOperationException {
-        for (String name : OTHER_QUESTIONS) {
-            call(name);
-        }
-        for (String name : OFFSET_QUESTIONS) {
-            call(name, anyOffset());
-        }
-        for (String name : List.of("latestOf", "valueOf", "countOf")) {
-            call(name, near(0, 9));
-        }
-        for (String name : List.of("saidIn", "keptOf")) {
-            call(name, near(0, model.storms() - 1));
-        }
-        for (String name : SHIP_QUESTIONS) {
-            call(name, anyShip());
-        }
-        call("knownBy", anyShip(), near(0, 9));
-        call("errorsIn", anyShip(), pick(0, 1) == 0 ? near(1, 60) : pick(1, 5));
-        call("paceWanted", anyShip(), pick(0, 1) == 0 ? near(1, 60) : pick(1, 20));
     }
 
     private int anyShip() {
@@ -110,7 +96,7 @@ public final class ModelTest {
         return least + (int) ((chance >>> 33) % (most - least + 1));
     }
 
-    private void call(String name, Integer... values) throws ReflectiveOperationException {
+    private void compare(String name, Integer... values) throws ReflectiveOperationException {
         Class<?>[] types = new Class<?>[values.length];
         Arrays.fill(types, int.class);
         String got = answer(log, ParrotLog.class.getMethod(name, types), values);
