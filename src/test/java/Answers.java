@@ -5,6 +5,7 @@ import java.util.function.ToLongFunction;
 final class Answers {
     private static final int KEYS = 10;
     private static final int MOST_HOURS = 60;
+    private static final int MOST_SHIPS = 6;
 
     private Answers() {
     }
@@ -74,7 +75,10 @@ final class Answers {
         addAct(text, log, ParrotLog::endStorm);
         addAct(text, log, it -> it.passHours(1));
         addAct(text, log, it -> it.replay(0));
-        addAct(text, log, it -> it.seek(0, 0));
+        for (int i = 0; i < MOST_SHIPS; i++) {
+            int ship = i;
+            addAct(text, log, it -> it.seek(ship, 0));
+        }
         addAct(text, log, it -> it.passHours(1));
         addAct(text, log, ParrotLog::digest);
         addAct(text, log, it -> it.addShip(3, 0));

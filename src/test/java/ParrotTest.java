@@ -205,7 +205,7 @@ public final class ParrotTest {
         Check.due("replay(0) of one that is dropped", log.replay(0), 0);
     }
 
-    /** Each phrase that it says drops one that it has yet to say: all that are kept as this begins are said. */
+    /** Each phrase is the first one as it is said again, and so is dropped by that. */
     private static void replayInAFullLog() {
         ParrotLog log = new ParrotLog();
         log.addShip(1, 0);

@@ -93,6 +93,12 @@ public final class ShipsTest {
         Check.due("lagOf(0) behind the gap", log.lagOf(0), 1);
         log.seek(0, 6);
         Check.due("lagOf(0) at the end", log.lagOf(0), 0);
+        ParrotLog mixed = Logs.mixed();
+        int[] lags = {5, 5, 5, 4, 3, 3, 2, 1, 0};
+        for (int offset = 0; offset < lags.length; offset++) {
+            mixed.seek(0, offset);
+            Check.due("lagOf(0) at " + offset + " with gaps", mixed.lagOf(0), lags[offset]);
+        }
     }
 
     private static void heard() {

@@ -40,6 +40,10 @@ public final class TermsTest {
         log.compact();
         Check.due("phrases() behind compacting all", log.phrases(), 0);
         Check.due("say() behind compacting all", log.say(1, 1), 4);
+        log.say(2, 0);
+        log.compact();
+        Check.due("phrases() behind compacting the last one alone", log.phrases(), 1);
+        Check.due("say() behind compacting the last one alone", log.say(1, 1), 6);
     }
 
     /** "It keeps at most 48 phrases": 48 of them. */
@@ -378,10 +382,11 @@ public final class TermsTest {
         Check.due("512th call: heardBy(0)", heard.heardBy(0), 11088);
         ParrotLog replayed = eightReplaysOf48();
         Check.due("409th call: nextOffset()", replayed.nextOffset(), 768);
-        for (int i = 0; i < 102; i++) {
+        for (int i = 0; i < 101; i++) {
             replayed.say(1, 1);
         }
-        Check.due("512th call: dropped()", replayed.dropped(), 822);
+        Check.due("511th call: nextOffset()", replayed.nextOffset(), 869);
+        Check.due("512th call: dropped()", replayed.dropped(), 821);
     }
 
     private static ParrotLog eightReplaysOf48() {
