@@ -18,6 +18,9 @@ public final class TermsTest {
         aShipMissesWhatAReplayDrops();
         aStormsPhrases();
         oneStormAtATime();
+        onlyHearingWaitsForTheEndOfAStorm();
+        theLogIsAskedInAStorm();
+        shipsAreAskedInAStorm();
         compactingDropsWhatIsBehind();
         compactingDropsZerosAheadOfAllShips();
         compactingDropsZerosAheadOfShipsAtTheEnd();
@@ -211,6 +214,61 @@ public final class TermsTest {
         log.say(1, 1);
         Check.due("stormAt(56) as the last is over", log.stormAt(56), -1);
         Check.due("saidIn(7) as the last is over", log.saidIn(7), 7);
+    }
+
+    /** "But not in a storm" is told of hearing alone: all that is done by hand goes on. */
+    private static void onlyHearingWaitsForTheEndOfAStorm() {
+        ParrotLog log = Logs.mixed();
+        log.startStorm();
+        Check.due("say() in a storm", log.say(3, 0), 8);
+        Check.due("seek() in a storm", log.seek(0, 8), 2);
+        Check.due("addShip() in a storm", log.addShip(5, 6), 3);
+        Check.due("compact() in a storm", log.compact(), 2);
+        Check.due("isKept(2) of the one behind which 6 is", log.isKept(2), false);
+        Check.due("isKept(3) of the one behind which 8 is", log.isKept(3), false);
+        dueMissed("compacted in a storm", log, 1, 0, 0, 0);
+        Check.due("trimTo() in a storm", log.trimTo(7), 2);
+        dueMissed("trimmed in a storm", log, 1, 0, 0, 1);
+        Check.due("passHours() in a storm", log.passHours(1), 0);
+        Check.due("lagOf(3) in a storm", log.lagOf(3), 2);
+        Check.due("wouldCompact() in a storm", log.wouldCompact(), 0);
+        log.seek(3, 8);
+        log.seek(1, 8);
+        Check.due("wouldCompact() in a storm as all ships went on", log.wouldCompact(), 1);
+        Check.due("endStorm()", log.endStorm(), 1);
+        Check.due("passHours() behind it", log.passHours(1), 4);
+    }
+
+    private static void theLogIsAskedInAStorm() {
+        ParrotLog log = Logs.stormy();
+        Check.due("hours() in a storm", log.hours(), 1);
+        Check.due("phrases() in a storm", log.phrases(), 7);
+        Check.due("nextOffset() in a storm", log.nextOffset(), 10);
+        Check.due("firstOffset() in a storm", log.firstOffset(), 2);
+        Check.due("dropped() in a storm", log.dropped(), 3);
+        Check.due("isKept(9) in a storm", log.isKept(9), true);
+        Check.due("keyAt(9) in a storm", log.keyAt(9), 1);
+        Check.due("valueAt(5) in a storm", log.valueAt(5), -5);
+        Check.due("latestOf(1) in a storm", log.latestOf(1), 9);
+        Check.due("valueOf(5) in a storm", log.valueOf(5), 5);
+        Check.due("countOf(1) in a storm", log.countOf(1), 2);
+        Check.due("wouldCompact() in a storm", log.wouldCompact(), 2);
+    }
+
+    private static void shipsAreAskedInAStorm() {
+        ParrotLog log = Logs.stormy();
+        Check.due("ships() in a storm", log.ships(), 3);
+        Check.due("offsetOf(1) in a storm", log.offsetOf(1), 7);
+        Check.due("lagOf(1) in a storm", log.lagOf(1), 3);
+        Check.due("heardBy(0) in a storm", log.heardBy(0), 2);
+        dueMissed("in a storm", log, 1, 0, 0);
+        Check.due("knownBy(0, 1) in a storm", log.knownBy(0, 1), 2);
+        Check.due("errorsOf(0) in a storm", log.errorsOf(0), 4);
+        Check.due("farthestBehind() in a storm", log.farthestBehind(), 0);
+        Check.due("wouldMiss(0) in a storm", log.wouldMiss(0), 2);
+        Check.dueMean("meanLag() in a storm", log.meanLag(), 4.0);
+        log.trimTo(10);
+        Check.due("farthestBehind() in a storm without a lag", log.farthestBehind(), 0);
     }
 
     private static void compactingDropsWhatIsBehind() {
